@@ -484,11 +484,11 @@ public final class AidRows {
             kinds[made] = kind;
             units[made] = wanted;
             patiences[made] = patience;
+            states[made] = OPEN;
             return made++;
         }
 
         void move(int ask, int house, int minute, boolean lineIsCut) {
-            states[ask] = OPEN;
             places[ask] = house;
             since[ask] = minute;
             visited[ask] |= 1 << house;
