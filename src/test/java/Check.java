@@ -1,8 +1,44 @@
+import java.lang.reflect.InvocationTargetException;
+import java.lang.reflect.Method;
+import java.util.Arrays;
+import java.util.Comparator;
+
 /** Compares answers with those that are due and tells, at the end of a test, whether all were right. */
 final class Check {
     private static int wrong = 0;
+    private static String running = "";
 
     private Check() {
+    }
+
+    /**
+     * Runs every method of a test class that takes nothing, each as a test of its own: one that breaks off does not
+     * keep the others from running, and none can be forgotten in a list.
+     */
+    static void cases(String promise, Class<?> test) throws ReflectiveOperationException {
+        Method[] methods = test.getDeclaredMethods();
+        Arrays.sort(methods, Comparator.comparing(Method::getName));
+        int ran = 0;
+        for (Method method : methods) {
+            if (method.getParameterCount() == 0 && method.getReturnType() == void.class && !method.isSynthetic()) {
+                running = promise + ", " + method.getName() + ": ";
+                runCase(method);
+                ran++;
+            }
+        }
+        running = "";
+        if (ran == 0) {
+            fail(promise + " has no case");
+        }
+        finish();
+    }
+
+    private static void runCase(Method method) throws ReflectiveOperationException {
+        try {
+            method.invoke(null);
+        } catch (InvocationTargetException e) {
+            fail("breaks off with " + e.getCause());
+        }
     }
 
     static void same(String what, int got, int due) {
@@ -56,7 +92,7 @@ final class Check {
 
     static void fail(String what) {
         wrong++;
-        System.out.println(what);
+        System.out.println(running + what);
     }
 
     static void finish() {
