@@ -7,11 +7,26 @@ import java.util.TreeSet;
 
 /** The document's public face, and rule 1 of LANGUAGE.md: nothing else can be seen from outside. */
 public final class FaceTest {
+    private static final String UNKNOWN = " IllegalArgumentException";
+    private static final String OUTSIDE = " IndexOutOfBoundsException";
+    private static final String NOT_NOW = " IllegalStateException";
+    private static final String NO_ROOM = " UnsupportedOperationException";
     private static final String[] FACE = {
-        "int house(int,int)", "int agree(int,int,int,int,int,int)", "int ask(int,int,int)",
-        "int message(int,int,int,int,int)", "int seen(int,int)", "int tick(int)", "void cut(int,boolean)",
-        "void end(int)", "int askAt(int,int)", "int loanAt(int,int)", "int cost(int)", "int named(int)",
-        "void hand(int,int)", "int handed(int)", "int count(int)"};
+        "int house(int,int)" + OUTSIDE + NO_ROOM,
+        "int agree(int,int,int,int,int,int)" + UNKNOWN + OUTSIDE + NOT_NOW + NO_ROOM,
+        "int ask(int,int,int)" + UNKNOWN + OUTSIDE + NO_ROOM,
+        "int message(int,int,int,int,int)" + UNKNOWN + OUTSIDE + NO_ROOM,
+        "int seen(int,int)" + UNKNOWN + OUTSIDE,
+        "int tick(int)" + OUTSIDE,
+        "void cut(int,boolean)" + UNKNOWN + NOT_NOW,
+        "void end(int)" + UNKNOWN + NOT_NOW,
+        "int askAt(int,int)" + UNKNOWN,
+        "int loanAt(int,int)" + UNKNOWN,
+        "int cost(int)" + UNKNOWN,
+        "int named(int)",
+        "void hand(int,int)" + UNKNOWN + NOT_NOW,
+        "int handed(int)" + UNKNOWN,
+        "int count(int)" + UNKNOWN};
 
     public static void main(String[] args) {
         methodsAreThoseOfTheDocument();
@@ -25,6 +40,9 @@ public final class FaceTest {
         Set<String> publicNames = new TreeSet<>();
         for (Method method : AidRows.class.getDeclaredMethods()) {
             if (!Modifier.isPrivate(method.getModifiers())) {
+                if (!Modifier.isPublic(method.getModifiers()) || Modifier.isStatic(method.getModifiers())) {
+                    Check.fail("a method is not of the face: " + method);
+                }
                 got.add(faceOf(method));
                 publicNames.add(method.getName());
             }
@@ -44,7 +62,11 @@ public final class FaceTest {
         for (Class<?> type : method.getParameterTypes()) {
             text.append(text.length() == 0 ? "" : ",").append(type.getName());
         }
-        return method.getReturnType().getName() + " " + method.getName() + "(" + text + ")";
+        text.append(")");
+        for (Class<?> type : method.getExceptionTypes()) {
+            text.append(" ").append(type.getSimpleName());
+        }
+        return method.getReturnType().getName() + " " + method.getName() + "(" + text;
     }
 
     private static void nothingElseIsVisible() {
